@@ -3,6 +3,7 @@ import java.lang.reflect.Method;
 import java.lang.reflect.Modifier;
 import java.util.ArrayList;
 import java.util.Arrays;
+import java.util.Collections;
 import java.util.Comparator;
 import java.util.List;
 import java.util.Random;
@@ -41,13 +42,23 @@ public final class RandomRunsTest {
             if (Modifier.isPublic(method.getModifiers())) methods.add(method);
         }
         methods.sort(Comparator.comparing(Method::getName));
-        for (int i = 0; i < CALLS; i++) {
-            String wrong = random.nextInt(12) == 0 ? loadText() : call(methods.get(random.nextInt(methods.size())));
+        // Every 50th run lasts till after the last tick at which the wind can be asked for.
+        boolean isLong = random.nextInt(50) == 0;
+        int calls = isLong ? 3 * CALLS : CALLS;
+        for (int i = 0; i < calls; i++) {
+            String wrong = isLong ? compare("pass", 50) : null;
+            if (wrong == null) wrong = oneCall(methods, isLong && i > 10);
             if (wrong == null && random.nextInt(3) == 0) wrong = compare("pass", some(50));
             if (wrong == null) wrong = compare("checksum");
             if (wrong != null) return wrong;
         }
         return null;
+    }
+
+    private String oneCall(List<Method> methods, boolean isToLast) throws Exception {
+        if (!isToLast && random.nextInt(12) == 0) return loadText();
+        Method method = methods.get(random.nextInt(methods.size()));
+        return isToLast && List.of("load", "undo").contains(method.getName()) ? null : call(method);
     }
 
     private String call(Method method) throws Exception {
@@ -67,17 +78,17 @@ public final class RandomRunsTest {
             case "append": return random.nextInt();
             case "load": return some(random.nextBoolean() ? 20 : 3);
             case "state": return some(17);
-            case "row": return place == 0 ? some(4) - 1 : some(4) - (random.nextInt(9) == 0 ? 1 : 0);
+            case "row": return place == 0 ? some(4) - (random.nextInt(9) == 0 ? 1 : 0) : some(4) - (random.nextInt(9) == 0 ? 1 : 0);
             case "gain": return place == 0 ? some(400) : some(4) - (random.nextInt(9) == 0 ? 1 : 0);
             case "wind": return random.nextBoolean() ? some(60) : some(20000);
             case "foretold": return place == 0 ? some(300) : some(7);
             case "settles": return some(300);
             case "swings": return some(300);
-            case "tunes": return place == 0 ? some(3) - 1 : 4 + some(97);
+            case "tunes": return place == 0 ? some(3) - (random.nextInt(9) == 0 ? 1 : 0) : 4 + some(97);
             case "pass": return some(50);
             case "order": return some(400);
             case "gust": return place == 2 ? some(198) - 99 : random.nextBoolean() ? some(500) : some(9999);
-            case "gains": return place == 0 ? some(4) - 1 : place == 2 ? some(99) : some(999);
+            case "gains": return place == 0 ? some(4) - (random.nextInt(9) == 0 ? 1 : 0) : place == 2 ? some(99) : some(999);
             default: return some(3599);
         }
     }
@@ -88,6 +99,11 @@ public final class RandomRunsTest {
         if (drawn == 0) return most + random.nextInt(2);
         if (drawn == 1) return -random.nextInt(2);
         return random.nextInt(most + 1);
+    }
+
+    /** 0 to most, or, seldom, just beyond. */
+    private int within(int most) {
+        return random.nextInt(40) == 0 ? most + random.nextInt(2) : random.nextInt(most + 1);
     }
 
     private String loadText() throws Exception {
@@ -105,25 +121,29 @@ public final class RandomRunsTest {
 
     private String text() {
         StringBuilder text = new StringBuilder("ship ").append(some(3599)).append(' ').append(some(400)).append(';');
-        for (int left = random.nextInt(9); left > 0 && text.length() < 400; left--) statement(text);
-        if (random.nextInt(3) == 0) {
+        List<Integer> kinds = new ArrayList<>(List.of(0, 1, 2, 3, 4, 5, 6, 7, 8, 9, 10));
+        Collections.shuffle(kinds, random);
+        int count = random.nextInt(kinds.size() + 1);
+        for (int i = 0; i < count && text.length() < 400; i++) statement(text, kinds.get(i));
+        if (random.nextInt(20) == 0) statement(text, kinds.get(0));
+        if (random.nextInt(4) == 0) {
             for (int left = 1 + random.nextInt(2); left > 0; left--) spoil(text);
         }
         if (random.nextInt(4) == 0) return text.toString().replace(" ", "  ");
         return text.substring(0, Math.min(text.length(), 500));
     }
 
-    private void statement(StringBuilder text) {
-        switch (random.nextInt(12)) {
-            case 0: text.append("course ").append(some(3599)); break;
-            case 1: text.append("speed").append(some(400)); break;
-            case 2: text.append("rudder ").append(10 + some(440)).append(' ').append(1 + some(98)); break;
-            case 3: text.append("pull ").append(1 + some(49)); break;
+    private void statement(StringBuilder text, int kind) {
+        switch (kind) {
+            case 0: text.append("course ").append(within(3599)); break;
+            case 1: text.append("speed").append(within(400)); break;
+            case 2: text.append("rudder ").append(10 + within(440) - (random.nextInt(30) == 0 ? 1 : 0)).append(' ').append(1 + within(98) - (random.nextInt(30) == 0 ? 1 : 0)); break;
+            case 3: text.append("pull ").append(1 + within(49) - (random.nextInt(30) == 0 ? 1 : 0)); break;
             case 4: rows(text); return;
             case 5: text.append("smooth"); break;
-            case 6: text.append("band ").append(some(900)); break;
-            case 7: text.append("dead ").append(some(90)); break;
-            case 8: text.append("off ").append(1 + some(random.nextBoolean() ? 30 : 1799)); break;
+            case 6: text.append("band ").append(within(900)); break;
+            case 7: text.append("dead ").append(within(90)); break;
+            case 8: text.append("off ").append(1 + within(random.nextBoolean() ? 30 : 1799) - (random.nextInt(30) == 0 ? 1 : 0)); break;
             case 9: gusts(text); return;
             default:
                 text.append("yaw ");
@@ -135,17 +155,17 @@ public final class RandomRunsTest {
     private void rows(StringBuilder text) {
         int speed = 0;
         for (int left = 1 + random.nextInt(random.nextInt(6) == 0 ? 9 : 4); left > 0; left--) {
-            text.append("row ").append(speed).append(' ').append(some(999)).append(' ').append(some(99)).append(' ')
-                .append(some(999)).append(';');
-            speed += 1 + some(random.nextBoolean() ? 40 : 150);
+            text.append("row ").append(speed).append(' ').append(within(999)).append(' ').append(within(99)).append(' ')
+                .append(within(999)).append(';');
+            speed += 1 + within(random.nextBoolean() ? 40 : 100) - (random.nextInt(40) == 0 ? 1 : 0);
         }
     }
 
     private void gusts(StringBuilder text) {
         for (int left = 1 + random.nextInt(random.nextInt(6) == 0 ? 9 : 3); left > 0; left--) {
-            int first = random.nextBoolean() ? some(100) : some(9999);
-            text.append("gust ").append(first).append(' ').append(Math.max(0, first + some(200) - 1)).append(' ')
-                .append(random.nextBoolean() ? "-" : "").append(some(99)).append(';');
+            int first = random.nextBoolean() ? within(100) : within(9700);
+            text.append("gust ").append(first).append(' ').append(first + within(200) - (random.nextInt(30) == 0 ? 1 : 0)).append(' ')
+                .append(random.nextBoolean() ? "-" : "").append(within(99)).append(';');
         }
     }
 
@@ -166,7 +186,7 @@ public final class RandomRunsTest {
             return;
         }
         String[] words = {"rudder", "speed", "rate", "wind"};
-        text.append(drawn < 4 ? words[drawn] : String.valueOf(drawn == 4 ? some(9999) : some(30)));
+        text.append(drawn < 4 ? words[drawn] : String.valueOf(drawn == 4 ? within(9999) : within(30)));
     }
 
     private void spoil(StringBuilder text) {
