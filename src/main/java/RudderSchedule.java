@@ -522,8 +522,7 @@ public final class RudderSchedule {
                         values[count - 1] = result(-step, values[count - 1], values[count]);
                     }
                 } else if (count >= 0 && count < values.length) {
-                    values[count] = step == -RUDDER ? rudder
-                        : step == -SPEED ? speed : step == -RATE ? rate : step == -WIND ? wind : step;
+                    values[count] = operand(step, rudder, speed, rate, wind);
                     count++;
                 }
             }
@@ -532,6 +531,16 @@ public final class RudderSchedule {
 
         private static boolean isOperator(int kind) {
             return kind == '+' || kind == '-' || kind == '*' || kind == '/';
+        }
+
+        private static int operand(int step, int rudder, int speed, int rate, int wind) {
+            switch (-step) {
+                case RUDDER: return rudder;
+                case SPEED: return speed;
+                case RATE: return rate;
+                case WIND: return wind;
+                default: return step;
+            }
         }
 
         private static int result(int operator, int left, int right) {
@@ -746,7 +755,7 @@ public final class RudderSchedule {
         }
 
         void run(int ticks) {
-            int side = Integer.signum(trial.presentError());
+            int errorNow = trial.presentError();
             int ticksOn = 0;
             greatestError = 0;
             greatestSwing = 0;
@@ -755,7 +764,7 @@ public final class RudderSchedule {
                 trial.tick();
                 int error = trial.presentError();
                 greatestError = Math.max(greatestError, Math.abs(error));
-                if (Integer.signum(error) * side < 0) {
+                if (errorNow > 0 && error < 0 || errorNow < 0 && error > 0) {
                     greatestSwing = Math.max(greatestSwing, Math.abs(error));
                 }
                 ticksOn = trial.isOnCourse() ? ticksOn + 1 : 0;

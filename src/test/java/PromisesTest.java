@@ -236,6 +236,16 @@ public final class PromisesTest {
         dueState(x, 0, 20);
         due("load that replaces all", 1, () -> loaded(x, "ship 5 6;"));
         due("checksum()", made("ship 5 6;").checksum(), x::checksum);
+        loaded(x, "ship 0 0;yaw 3*(4+5);course 9;speed 8;rudder 20 2;pull 1;smooth;band 3;dead 1;off 7;gust 0 9 1;row 0 9 9 9;");
+        due("an error inside of parentheses", -2, () -> loaded(x, "ship 0 0;yaw 7*(8+(9"));
+        due("the error leaves the yaw", 27, () -> x.foretold(1, 1));
+        due("an error behind an operator", -2, () -> loaded(x, "ship 0 0;yaw 7*"));
+        due("another yaw", 1, () -> loaded(x, "ship 0 0;yaw 2+3;"));
+        due("the other yaw", 5, () -> x.foretold(1, 1));
+        due("no yaw", 1, () -> loaded(x, "ship 0 200;course 900;"));
+        due("checksum() without statements again", made("ship 0 200;course 900;").checksum(), x::checksum);
+        due("the usual yaw, limit and rate again", made("ship 0 200;course 900;").foretold(30, 0), () -> x.foretold(30, 0));
+        due("the usual off again", 0, () -> made("ship 0 0;course 300;").foretold(9, 5));
         due("part of the buffer", 1, () -> {
             fill(x, "ship 1 2;course 3;");
             return x.load(9);
@@ -435,6 +445,14 @@ public final class PromisesTest {
         dueFault("ship 0 0;smoothcourse 5;", -2, 9);
         dueFault("ship 0 0;yawrudder;", -2, 9);
         dueFault("ship 0 0;cour se 5;", -2, 9);
+        dueFault("ship 0 0;zmooth;", -2, 9);
+        dueFault("ship 0 0;smoothz;", -2, 9);
+        dueFault("ship 0 0;smootha;", -2, 9);
+        dueFault("ship 0 0;smooth{;", -2, 15);
+        dueFault("ship 0 0;smooth`;", -2, 15);
+        dueFault("ship 0 0;course 5:;", -2, 17);
+        dueFault("ship 0 0;" + repeated(" ", 485) + "smooth", -2, 500);
+        dueGood("ship 0 0;" + repeated(" ", 484) + "smooth;", 1);
         dueFault("ship 0 0;course 3 5;", -2, 18);
         dueFault("ship 0 0;course" + repeated("e", 400) + " 5;", -2, 9);
     }
@@ -572,6 +590,16 @@ public final class PromisesTest {
         due("beyond the limit", 2, x::why);
         x.steer(3559);
         due("beyond the limit to the left", 2, x::why);
+        RudderSchedule turned = made("ship 0 0;row 0 100 0 0;yaw 0;course 20;");
+        turned.pass(1);
+        turned.steer(50);
+        due("just the rate from the rudder 20 on", 0, turned::why);
+        turned.steer(51);
+        due("beyond the rate from the rudder 20 on", 3, turned::why);
+        turned.steer(3590);
+        due("just the rate back", 0, turned::why);
+        turned.steer(3589);
+        due("beyond the rate back", 3, turned::why);
         x.steer(0);
         x.pass(1);
         x.steer(x.state(1));
@@ -644,6 +672,9 @@ public final class PromisesTest {
         due("the error ahead of the ticks does not count", 90, () -> made("ship 0 0;course 100;yaw 10-rate;").foretold(1, 6));
         due("an error to the left", 110, () -> made("ship 0 0;course 3500;yaw 10-rate;").foretold(1, 6));
         due("the greatest, not the last", 90, () -> made("ship 0 0;course 100;yaw 10-rate;").foretold(5, 6));
+        RudderSchedule again = made("ship 0 0;course 100;yaw 10-rate;");
+        again.foretold(300, 6);
+        due("a smaller one after a greater one", 90, () -> again.foretold(1, 6));
         due("wraps", 10, () -> made("ship 3590 0;yaw 20;").foretold(1, 0));
         due("foretold(0, 0)", BAD_ARGUMENT, () -> x.foretold(0, 0));
         due("foretold(301, 0)", BAD_ARGUMENT, () -> x.foretold(301, 0));
@@ -702,6 +733,9 @@ public final class PromisesTest {
         String smooth = "ship 0 100;course 200;dead 30;rudder 350 20;row 0 7 0 500;row 150 80 0 300;smooth;";
         String steps = "ship 0 100;course 200;dead 30;rudder 350 20;row 0 7 0 500;row 99 80 0 300;row 200 50 0 100;";
         dueTuned(stiff, 0, 100, 400);
+        // Only 400 settles behind 12 ticks.
+        dueTuned(stiff, 0, 12, 400);
+        dueTuned(stiff, 0, 11, 0);
         dueTuned(stiff, 1, 100, 0);
         // From 320 on it settles behind 17 ticks; with 380 and 400 it swings by 31 then, with the others by 32.
         dueTuned(smooth, 0, 100, 380);
@@ -850,6 +884,8 @@ public final class PromisesTest {
         dueYaw("gust 0 0 -9;gust 1 1 50;yaw wind;", -9);
         dueYaw("course 900;yaw rudder;", 30);
         dueYaw("course 900;", 30 * 120 / 2000);
+        dueYaw("speed 129;pull 9;rudder 31 31;course 900;", 31 * 129 / 2000);
+        dueYaw("speed 125;pull 5;rudder 32 32;course 900;", 32 * 125 / 2000);
         dueYaw("course 2700;gust 0 9 7;", 7 - 30 * 120 / 2000);
         dueYaw("yaw ((((1+2)*3+4)*5+6)*2+7)*1;", 149);
         dueYaw("yaw 1+(2*(3+(4*(5+1))));", 55);
