@@ -672,6 +672,7 @@ public final class PromisesTest {
         due("the error ahead of the ticks does not count", 90, () -> made("ship 0 0;course 100;yaw 10-rate;").foretold(1, 6));
         due("an error to the left", 110, () -> made("ship 0 0;course 3500;yaw 10-rate;").foretold(1, 6));
         due("the greatest, not the last", 90, () -> made("ship 0 0;course 100;yaw 10-rate;").foretold(5, 6));
+        due("no error behind any tick", 0, () -> new RudderSchedule().foretold(9, 6));
         RudderSchedule again = made("ship 0 0;course 100;yaw 10-rate;");
         again.foretold(300, 6);
         due("a smaller one after a greater one", 90, () -> again.foretold(1, 6));
