@@ -2,24 +2,12 @@ import java.lang.reflect.Constructor;
 import java.lang.reflect.Field;
 import java.lang.reflect.Method;
 import java.lang.reflect.Modifier;
-import java.nio.ByteBuffer;
-import java.nio.charset.StandardCharsets;
 import java.util.Arrays;
 import java.util.Set;
 import java.util.TreeSet;
-import java.util.concurrent.Callable;
 
 /** The promises one by one, each with ordinary inputs, the edges that the document names, and wrong inputs. */
-public final class PromisesTest {
-    private static final String BAD_ARGUMENT = "throws.IllegalArgumentException";
-    private static final String BAD_INDEX = "throws.IndexOutOfBoundsException";
-    private static final String BAD_STATE = "throws.IllegalStateException";
-    private static final int[] WILD = {Integer.MIN_VALUE, Integer.MIN_VALUE + 1, Integer.MAX_VALUE};
-
-    private static String part = "";
-    private static int passed = 0;
-    private static int failed = 0;
-
+public final class PromisesTest extends Checks {
     public static void main(String[] args) {
         face();
         newObject();
@@ -56,60 +44,7 @@ public final class PromisesTest {
         smooth();
         undo();
         checksum();
-        System.out.println(passed + " passed, " + failed + " failed");
-        if (failed != 0) System.exit(1);
-    }
-
-    // Help for the tests
-
-    private static void promise(String name) {
-        part = name;
-    }
-
-    private static void due(String what, Object want, Callable<?> call) {
-        String got;
-        try {
-            got = String.valueOf(call.call());
-        } catch (Exception e) {
-            got = "throws." + e.getClass().getSimpleName();
-        }
-        if (got.equals(String.valueOf(want))) {
-            passed++;
-        } else {
-            failed++;
-            System.out.println(part + ": " + what + " answered " + got + ", due is " + want);
-        }
-    }
-
-    private static void dueState(RudderSchedule x, int what, int want) {
-        due("state(" + what + ")", want, () -> x.state(what));
-    }
-
-    private static RudderSchedule made(String text) {
-        RudderSchedule x = new RudderSchedule();
-        due("load of " + text, true, () -> loaded(x, text) > 0);
-        return x;
-    }
-
-    private static int loaded(RudderSchedule x, String text) {
-        fill(x, text);
-        return x.load(text.length());
-    }
-
-    private static void fill(RudderSchedule x, String text) {
-        byte[] bytes = text.getBytes(StandardCharsets.ISO_8859_1);
-        ByteBuffer all = ByteBuffer.wrap(Arrays.copyOf(bytes, (bytes.length + 19) / 20 * 20));
-        while (all.hasRemaining()) x.append(all.getInt(), all.getInt(), all.getInt(), all.getInt(), all.getInt());
-    }
-
-    private static void dueFault(String text, int code, int offset) {
-        RudderSchedule x = new RudderSchedule();
-        due("load of " + text, code, () -> loaded(x, text));
-        due("errorOffset behind " + text, offset, x::errorOffset);
-    }
-
-    private static void dueGood(String text, int rows) {
-        dueFault(text, rows, -1);
+        finish();
     }
 
     /** The rate of turn behind the first tick: the value of the yaw, limited to -300 to 300. */
@@ -118,12 +53,6 @@ public final class PromisesTest {
         x.pass(1);
         due("rate of turn behind a tick of " + statements, want, () -> x.state(2));
     }
-
-    private static String repeated(String piece, int times) {
-        return piece.repeat(times);
-    }
-
-    // The tests
 
     private static void face() {
         promise("The public face");
@@ -270,21 +199,16 @@ public final class PromisesTest {
         due("limit 350", 350, () -> y.foretold(50, 2));
         RudderSchedule z = made("ship 0 0;");
         z.steer(100);
-        due("band 100", 100, () -> stateBehindTick(z, 8));
+        due("band 100", 100, () -> behindTick(z, 8));
         z.steer(101);
-        due("beyond band 100", 0, () -> stateBehindTick(z, 8));
+        due("beyond band 100", 0, () -> behindTick(z, 8));
         z.steer(5);
         due("dead 5", 1, z::why);
         due("beyond dead 5", 0, () -> made("ship 0 0;course 6;").why());
         z.steer(300);
-        due("off 300", 0, () -> stateBehindTick(z, 10));
+        due("off 300", 0, () -> behindTick(z, 10));
         z.steer(301);
-        due("beyond off 300", 1, () -> stateBehindTick(z, 10));
-    }
-
-    private static int stateBehindTick(RudderSchedule x, int what) {
-        x.pass(1);
-        return x.state(what);
+        due("beyond off 300", 1, () -> behindTick(z, 10));
     }
 
     private static void loadStatements() {
@@ -301,7 +225,7 @@ public final class PromisesTest {
         due("rate 1", 1, () -> y.foretold(1, 2));
         due("limit 10", 10, () -> y.foretold(50, 2));
         due("off 1", 1, () -> y.foretold(5, 5));
-        due("band 0", 0, () -> stateBehindTick(y, 8));
+        due("band 0", 0, () -> behindTick(y, 8));
         RudderSchedule z = made("ship 0 0;row 0 999 0 0;rudder 450 99;");
         z.steer(1800);
         due("rate 99", 99, () -> z.foretold(1, 2));
