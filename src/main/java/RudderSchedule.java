@@ -526,7 +526,7 @@ public final class RudderSchedule {
                     count++;
                 }
             }
-            return values[0];
+            return values.length > 0 ? values[0] : 0;
         }
 
         private static boolean isOperator(int kind) {

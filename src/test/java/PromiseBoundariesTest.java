@@ -35,13 +35,23 @@ public final class PromiseBoundariesTest extends Checks {
         Object of(int number) throws Exception;
     }
 
-    /** The numbers from low to high are taken; those beyond, and the wildest ones, are refused. */
-    private static void dueTaken(String what, int low, int high, String exception, IntCall call) {
+    /** The test of words that name a range: its ends and its middle are taken, the next numbers beyond are refused. */
+    private static void range(String words, int low, int high, String exception, IntCall call) {
+        sentence(words);
         for (int taken : new int[] {low, (low + high) / 2, high}) {
-            due(what + " of " + taken + " throws", false, () -> answerOf(() -> call.of(taken)).startsWith("throws."));
+            due(taken + " throws", false, () -> answerOf(() -> call.of(taken)).startsWith("throws."));
         }
-        for (int refused : new int[] {low - 1, high + 1, Integer.MIN_VALUE, Integer.MIN_VALUE + 1, Integer.MAX_VALUE}) {
+        due("" + (low - 1), exception, () -> call.of(low - 1));
+        due("" + (high + 1), exception, () -> call.of(high + 1));
+    }
+
+    /** Numbers just beyond the range from low to high, and the wildest ones, are refused; the ends of it are not. */
+    private static void dueRefused(String what, int low, int high, String exception, IntCall call) {
+        for (int refused : new int[] {low - 1, high + 1, high + 100000, Integer.MIN_VALUE, Integer.MIN_VALUE + 1, Integer.MAX_VALUE}) {
             due(what + " of " + refused, exception, () -> call.of(refused));
+        }
+        for (int taken : new int[] {low, high}) {
+            due(what + " of " + taken + " throws", false, () -> answerOf(() -> call.of(taken)).startsWith("throws."));
         }
     }
 
@@ -112,6 +122,13 @@ public final class PromiseBoundariesTest extends Checks {
         due("no yaw of the old text", 0, () -> x.foretold(9, 1));
         fill(x, "ship 7 8;");
         due("load of all but the last byte", -2, () -> x.load(8));
+        // Nothing of a text with an error gets into the next one.
+        for (String text : new String[] {"yaw 7*(8+(9", "yaw 7*", "yaw (((((", "yaw 1+2*(3-4*x", "smooth;yaw 1;row 0 9 9 9;gust 0 0 9;x", "dead 91"}) {
+            due("load of " + text, true, () -> loaded(x, "ship 9 9;" + text) < 0);
+            due("load behind " + text, 1, () -> loaded(x, "ship 7 8;yaw ((((1+2))))*3-4;"));
+            dueAlike(x, made("ship 7 8;yaw ((((1+2))))*3-4;"));
+            due("the yaw", 5, () -> x.foretold(1, 1));
+        }
 
         sentence("The input buffer is empty afterwards, also if the text has an error.");
         RudderSchedule y = new RudderSchedule();
@@ -215,6 +232,18 @@ public final class PromiseBoundariesTest extends Checks {
 
     private static void state() {
         section("Promise 5: state");
+        sentence("- `what`: 0 the time, 1 the heading, 2 the rate of turn, 3 the rudder angle, 4 the speed, 5 the course, 6 the ordered "
+            + "speed, 7 the error as it is now, 8 the sum of errors, 9 the wear, 10 the ticks off course, 11 the alarms, 12 the tick "
+            + "of the latest alarm (-1 without one), 13 the rows, 14 the gusts, 15 1 if the schedule is smooth, otherwise 0, 16 the "
+            + "row in use");
+        RudderSchedule all = made("ship 3500 100;course 100;row 0 100 0 0;row 60 90 0 0;row 120 80 0 0;off 150;band 300;rudder 300 40;"
+            + "gust 0 9 1;smooth;speed 130;");
+        all.pass(6);
+        // Tick by tick P is 83, 82, 81, 80, 80, 80; the error 200, 197, 190, 178, 161, 140; the rudder 40, 80, 120, 142,
+        // 128, 112; the rate of turn 3, 7, 12, 17, 21, 22.
+        int[] want = {6, 3582, 22, 112, 130, 100, 130, 118, 1066, 172, 0, 1, 4, 3, 1, 1, 2};
+        for (int i = 0; i < want.length; i++) dueState(all, i, want[i]);
+
         sentence("12 the tick of the latest alarm (-1 without one)");
         RudderSchedule x = made("ship 0 0;off 1;course 2;");
         dueState(x, 12, -1);
@@ -252,7 +281,7 @@ public final class PromiseBoundariesTest extends Checks {
 
         sentence("Throws `IllegalArgumentException` if what is out of range");
         RudderSchedule y = new RudderSchedule();
-        dueTaken("state", 0, 16, BAD_ARGUMENT, y::state);
+        dueRefused("state", 0, 16, BAD_ARGUMENT, y::state);
     }
 
     private static void row() {
@@ -261,18 +290,27 @@ public final class PromiseBoundariesTest extends Checks {
         StringBuilder text = new StringBuilder("ship 0 0;");
         for (int i = 0; i < 8; i++) text.append("row ").append(50 * i).append(' ').append(i).append(" 1 1;");
         RudderSchedule full = made(text.toString());
+        sentence("- `what`: 0 its speed, 1 P, 2 I, 3 D");
+        int[] want = {0, 1, 2, 3, 40, 5, 6, 7};
+        for (int i = 0; i < want.length; i++) {
+            int at = i;
+            due("row(" + i / 4 + ", " + i % 4 + ")", want[i], () -> x.row(at / 4, at % 4));
+        }
+        due("row(0, -1)", BAD_ARGUMENT, () -> x.row(0, -1));
+        due("row(1, 4)", BAD_ARGUMENT, () -> x.row(1, 4));
+
         sentence(NO_INDEX);
-        dueTaken("row", 0, 1, BAD_INDEX, row -> x.row(row, 0));
-        dueTaken("row", 0, 7, BAD_INDEX, row -> full.row(row, 0));
+        dueRefused("row", 0, 1, BAD_INDEX, row -> x.row(row, 0));
+        dueRefused("row", 0, 7, BAD_INDEX, row -> full.row(row, 0));
         due("row(7, 0)", 350, () -> full.row(7, 0));
         due("row(7, 3)", 1, () -> full.row(7, 3));
-        dueTaken("row", 0, 0, BAD_INDEX, row -> new RudderSchedule().row(row, 0));
+        dueRefused("row", 0, 0, BAD_INDEX, row -> new RudderSchedule().row(row, 0));
         loaded(full, "ship 0 0;row 0 1 1 1;row 1 1 1 1;");
         due("a row of the text before", BAD_INDEX, () -> full.row(2, 0));
 
         sentence("Throws `IllegalArgumentException` if what is out of range");
-        dueTaken("what", 0, 3, BAD_ARGUMENT, what -> x.row(0, what));
-        dueTaken("what", 0, 3, BAD_ARGUMENT, what -> x.row(1, what));
+        dueRefused("what", 0, 3, BAD_ARGUMENT, what -> x.row(0, what));
+        dueRefused("what", 0, 3, BAD_ARGUMENT, what -> x.row(1, what));
         due("row(0, 0)", 0, () -> x.row(0, 0));
         due("row(1, 0)", 40, () -> x.row(1, 0));
         due("row(1, 3)", 7, () -> x.row(1, 3));
@@ -291,10 +329,20 @@ public final class PromiseBoundariesTest extends Checks {
         for (int[] w : smoothWant) dueGains(x, w);
         due("the ship's own speed", 0, () -> x.state(4));
 
+        range("- `speed`: 0 to 400", 0, 400, BAD_ARGUMENT, speed -> x.gain(speed, 3));
+        due("gain(0, 3)", 300, () -> x.gain(0, 3));
+        due("gain(400, 3)", 999, () -> x.gain(400, 3));
+
+        range("- `what`: 1 P, 2 I, 3 D", 1, 3, BAD_ARGUMENT, what -> x.gain(0, what));
+        for (int what = 1; what <= 3; what++) {
+            int w = what;
+            due("gain(400, " + w + ")", new int[] {10, 99, 999}[w - 1], () -> x.gain(400, w));
+        }
+
         sentence("Throws `IllegalArgumentException` if speed or what is out of range");
-        dueTaken("speed", 0, 400, BAD_ARGUMENT, speed -> x.gain(speed, 1));
-        dueTaken("what", 1, 3, BAD_ARGUMENT, what -> x.gain(0, what));
-        dueTaken("what", 1, 3, BAD_ARGUMENT, what -> x.gain(400, what));
+        dueRefused("speed", 0, 400, BAD_ARGUMENT, speed -> x.gain(speed, 1));
+        dueRefused("what", 1, 3, BAD_ARGUMENT, what -> x.gain(0, what));
+        dueRefused("what", 1, 3, BAD_ARGUMENT, what -> x.gain(400, what));
         due("both", BAD_ARGUMENT, () -> x.gain(401, 0));
     }
 
@@ -307,15 +355,15 @@ public final class PromiseBoundariesTest extends Checks {
 
     private static void wind() {
         section("Promise 8: wind");
-        sentence("`tick`: 0 to 20000");
         RudderSchedule x = made("ship 0 0;gust 0 0 7;gust 9999 9999 5;");
+        range("- `tick`: 0 to 20000", 0, 20000, BAD_ARGUMENT, x::wind);
         int[][] want = {{0, 7}, {1, 0}, {9998, 0}, {9999, 5}, {10000, 0}, {20000, 0}};
         for (int[] w : want) due("wind(" + w[0] + ")", w[1], () -> x.wind(w[0]));
         x.pass(50);
         for (int[] w : want) due("wind(" + w[0] + ") at the time 50", w[1], () -> x.wind(w[0]));
 
         sentence("Throws `IllegalArgumentException` if tick is out of range");
-        dueTaken("wind", 0, 20000, BAD_ARGUMENT, x::wind);
+        dueRefused("wind", 0, 20000, BAD_ARGUMENT, x::wind);
     }
 
     private static void error() {
@@ -325,9 +373,15 @@ public final class PromiseBoundariesTest extends Checks {
         int[][] want = {{0, 0, 0}, {0, 1800, 1800}, {1800, 0, 1800}, {0, 1801, -1799}, {1799, 0, -1799}, {3599, 0, 1}, {0, 3599, -1}};
         for (int[] w : want) due("error(" + w[0] + ", " + w[1] + ")", w[2], () -> x.error(w[0], w[1]));
 
+        range("- `heading`: 0 to 3599", 0, 3599, BAD_ARGUMENT, heading -> x.error(heading, 5));
+        due("error(3599, 3599)", 0, () -> x.error(3599, 3599));
+
+        range("- `course`: 0 to 3599", 0, 3599, BAD_ARGUMENT, course -> x.error(5, course));
+        due("error(1800, 3599)", 1799, () -> x.error(1800, 3599));
+
         sentence("Throws `IllegalArgumentException` if heading or course is out of range");
-        dueTaken("heading", 0, 3599, BAD_ARGUMENT, heading -> x.error(heading, 0));
-        dueTaken("course", 0, 3599, BAD_ARGUMENT, course -> x.error(0, course));
+        dueRefused("heading", 0, 3599, BAD_ARGUMENT, heading -> x.error(heading, 0));
+        dueRefused("course", 0, 3599, BAD_ARGUMENT, course -> x.error(0, course));
         due("both", BAD_ARGUMENT, () -> x.error(-1, 3600));
         dueState(x, 7, 4);
     }
@@ -359,7 +413,7 @@ public final class PromiseBoundariesTest extends Checks {
         // The wanted rudder is 0 by itself, with an error that is not small.
         due("0 otherwise", 0, () -> made("ship 0 0;dead 5;row 0 1 0 0;course 9;").why());
 
-        sentence("(behind (1) and (2) of that tick)");
+        sentence("Explains the rudder of the next tick, if it passed now (behind (1) and (2) of that tick).");
         due("by the speed of that tick", 2, () -> made("ship 0 9;speed 10;row 0 0 0 0;row 10 999 0 0;course 100;").why());
         due("not yet", 0, () -> made("ship 0 4;speed 10;row 0 0 0 0;row 10 999 0 0;course 100;").why());
         RudderSchedule sum = made("ship 0 0;dead 0;band 100;row 0 0 99 0;rudder 450 9;course 100;");
@@ -413,6 +467,20 @@ public final class PromiseBoundariesTest extends Checks {
         due("nothing has changed", before, x::checksum);
         due("it is no change: that of order is the latest", 2, x::undo);
 
+        range("- `ticks`: 1 to 300", 1, 300, BAD_ARGUMENT, ticks -> twin.foretold(ticks, 0));
+        RudderSchedule turning = made("ship 0 0;yaw 1-rate;");
+        due("foretold(1, 0)", 1, () -> turning.foretold(1, 0));
+        due("foretold(300, 0)", 300, () -> turning.foretold(300, 0));
+
+        range("- `what`: 0 the heading then, 1 the rate of turn then, 2 the rudder angle then, 3 the speed then,", 0, 6, BAD_ARGUMENT,
+            what -> twin.foretold(300, what));
+        RudderSchedule one = made("ship 3595 7;speed 400;course 11;gust 0 0 20;yaw wind;off 1;row 0 150 0 0;");
+        int[] behindOne = {15, 20, 24, 12, 24, 0, 4};
+        for (int what = 0; what < behindOne.length; what++) {
+            int w = what;
+            due("foretold(1, " + w + ")", behindOne[w], () -> one.foretold(1, w));
+        }
+
         sentence("4 the wear of these ticks, 5 the alarms of these ticks");
         RudderSchedule worn = made("ship 0 0;off 10;row 0 100 0 0;rudder 100 10;course 100;");
         worn.pass(12);
@@ -443,8 +511,8 @@ public final class PromiseBoundariesTest extends Checks {
         due("wrapped", 1799, () -> made("ship 0 0;course 1799;yaw 0-2;").foretold(1, 6));
 
         sentence("Throws `IllegalArgumentException` if ticks or what is out of range");
-        dueTaken("ticks", 1, 300, BAD_ARGUMENT, ticks -> twin.foretold(ticks, 0));
-        dueTaken("what", 0, 6, BAD_ARGUMENT, what -> twin.foretold(1, what));
+        dueRefused("ticks", 1, 300, BAD_ARGUMENT, ticks -> twin.foretold(ticks, 0));
+        dueRefused("what", 0, 6, BAD_ARGUMENT, what -> twin.foretold(1, what));
         due("both", BAD_ARGUMENT, () -> twin.foretold(301, 7));
     }
 
@@ -484,8 +552,11 @@ public final class PromiseBoundariesTest extends Checks {
         on.pass(50);
         due("from now on", 250, () -> on.settles(300));
 
+        range("- `limit`: 5 to 300", 5, 300, BAD_ARGUMENT, x::settles);
+        due("settles(5)", 5, () -> x.settles(5));
+
         sentence("Throws `IllegalArgumentException` if limit is out of range");
-        dueTaken("settles", 5, 300, BAD_ARGUMENT, x::settles);
+        dueRefused("settles", 5, 300, BAD_ARGUMENT, x::settles);
     }
 
     private static void swings() {
@@ -497,6 +568,8 @@ public final class PromiseBoundariesTest extends Checks {
         due("the first of another sign", 5, () -> made(right).swings(10));
         due("a later one", 15, () -> made(right).swings(11));
         due("the last ahead of the other side", 1795, () -> made(right).swings(189));
+        due("1 to the left of 1 to the right", 1, () -> made("ship 0 0;course 1;yaw 2-rate;").swings(1));
+        due("1 to the right of 1 to the left", 1, () -> made("ship 1 0;course 0;yaw 0-2-rate;").swings(1));
         String left = "ship 95 0;course 0;yaw 0-10-rate;";
         due("none of another sign, to the left", 0, () -> made(left).swings(9));
         due("the first of another sign, to the left", 5, () -> made(left).swings(10));
@@ -511,8 +584,14 @@ public final class PromiseBoundariesTest extends Checks {
         x.pass(10);
         due("the sign is that of now", 0, () -> x.swings(100));
 
+        range("- `ticks`: 1 to 300", 1, 300, BAD_ARGUMENT, x::swings);
+        due("swings(1)", 5, () -> made("ship 0 0;course 5;yaw 10;").swings(1));
+        RudderSchedule slow = made("ship 0 0;course 1;yaw 1-rate;");
+        due("swings(300)", 299, () -> slow.swings(300));
+        due("swings(299)", 298, () -> slow.swings(299));
+
         sentence("Throws `IllegalArgumentException` if ticks is out of range");
-        dueTaken("swings", 1, 300, BAD_ARGUMENT, x::swings);
+        dueRefused("swings", 1, 300, BAD_ARGUMENT, x::swings);
     }
 
     private static void tunes() {
@@ -533,6 +612,10 @@ public final class PromiseBoundariesTest extends Checks {
         due("from 0 on", 0, () -> made("ship 0 0;course 5;dead 5;yaw rudder;").tunes(0, 100));
         // 20 turns the ship onto its course at once, more beyond it.
         due("a gain of 20", 20, () -> made("ship 0 0;course 10;dead 1;row 0 0 0 0;rudder 450 99;yaw rudder*5-rate;").tunes(0, 100));
+        RudderSchedule kept = made(stiff);
+        long untouched = kept.checksum();
+        kept.tunes(0, 100);
+        due("nothing is set", untouched, kept::checksum);
         due("the row's own P does not count", 400, () -> made(stiff.replace("row 0 7", "row 0 399")).tunes(0, 100));
 
         sentence("of several the one with which it would swing over its course the least (swings(limit)), of these the smallest.");
@@ -552,12 +635,14 @@ public final class PromiseBoundariesTest extends Checks {
 
         RudderSchedule x = made(smooth);
         long before = x.checksum();
+        range("- `limit`: 5 to 100", 5, 100, BAD_ARGUMENT, limit -> x.tunes(1, limit));
+
         sentence(NO_INDEX);
-        dueTaken("row", 0, 1, BAD_INDEX, row -> x.tunes(row, 5));
+        dueRefused("row", 0, 1, BAD_INDEX, row -> x.tunes(row, 5));
         due("both", BAD_INDEX, () -> x.tunes(2, 4));
 
         sentence("Throws `IllegalArgumentException` if limit is out of range");
-        dueTaken("limit", 5, 100, BAD_ARGUMENT, limit -> x.tunes(0, limit));
+        dueRefused("limit", 5, 100, BAD_ARGUMENT, limit -> x.tunes(0, limit));
         due("nothing has changed", before, x::checksum);
     }
 
@@ -616,10 +701,14 @@ public final class PromiseBoundariesTest extends Checks {
         dueState(x, 11, 2);
         due("two in one call", 2, () -> made("ship 0 0;off 10;yaw wind-rate;gust 0 5 20;gust 12 20 5;gust 6 11 -20;").pass(50));
 
+        RudderSchedule counted = new RudderSchedule();
+        range("- `ticks`: 1 to 50", 1, 50, BAD_ARGUMENT, counted::pass);
+        dueState(counted, 0, 1 + 25 + 50);
+
         sentence("Throws `IllegalArgumentException` if ticks is out of range");
         RudderSchedule y = new RudderSchedule();
-        dueTaken("pass", 1, 50, BAD_ARGUMENT, y::pass);
-        dueState(y, 0, 1 + 25 + 50);
+        dueRefused("pass", 1, 50, BAD_ARGUMENT, y::pass);
+        dueState(y, 0, 1 + 50);
     }
 
     private static void steer() {
@@ -632,8 +721,11 @@ public final class PromiseBoundariesTest extends Checks {
             dueState(x, 5, w[0]);
         }
 
+        range("- `course`: 0 to 3599", 0, 3599, BAD_ARGUMENT, x::steer);
+        dueState(x, 5, 3599);
+
         sentence("Throws `IllegalArgumentException` if course is out of range");
-        dueTaken("steer", 0, 3599, BAD_ARGUMENT, x::steer);
+        dueRefused("steer", 0, 3599, BAD_ARGUMENT, x::steer);
         dueState(x, 5, 3599);
     }
 
@@ -655,8 +747,11 @@ public final class PromiseBoundariesTest extends Checks {
         due("the pull 50, from 399", 8, () -> made("ship 0 399;pull 50;").order(0));
         due("the pull 50, to 351", 8, () -> made("ship 0 0;pull 50;").order(351));
 
+        range("- `speed`: 0 to 400", 0, 400, BAD_ARGUMENT, x::order);
+        dueState(x, 6, 400);
+
         sentence("Throws `IllegalArgumentException` if speed is out of range");
-        dueTaken("order", 0, 400, BAD_ARGUMENT, x::order);
+        dueRefused("order", 0, 400, BAD_ARGUMENT, x::order);
         dueState(x, 6, 400);
     }
 
@@ -679,18 +774,26 @@ public final class PromiseBoundariesTest extends Checks {
         for (int i = 0; i < 201; i++) late.pass(50);
         due("in a tick beyond 20000", 0, () -> late.gust(0, 9999, 99));
 
-        sentence("`last`: its last tick, first to 9999");
+        range("- `first`: its first tick, 0 to 9999", 0, 9999, BAD_ARGUMENT, first -> new RudderSchedule().gust(first, 9999, 1));
+        due("the first tick 0", 1, () -> new RudderSchedule().gust(0, 9999, 1));
+
+        sentence("- `last`: its last tick, first to 9999");
         RudderSchedule y = new RudderSchedule();
         due("first itself", 1, () -> y.gust(0, 0, 1));
         due("less than first", BAD_ARGUMENT, () -> y.gust(5, 4, 1));
         due("first itself, the last tick", 1, () -> y.gust(9999, 9999, 1));
         due("beyond", BAD_ARGUMENT, () -> y.gust(9999, 10000, 1));
 
+        range("- `strength`: -99 to 99", -99, 99, BAD_ARGUMENT, strength -> new RudderSchedule().gust(0, 0, strength));
+        for (int strength : new int[] {-99, -1, 0, 1, 99}) {
+            due("the strength " + strength, strength, () -> new RudderSchedule().gust(0, 0, strength));
+        }
+
         sentence("Throws `IllegalArgumentException` if a parameter is out of range");
-        dueTaken("first", 0, 9999, BAD_ARGUMENT, first -> new RudderSchedule().gust(first, 9999, 1));
-        dueTaken("last", 0, 9999, BAD_ARGUMENT, last -> new RudderSchedule().gust(0, last, 1));
-        dueTaken("last of first 37", 37, 9999, BAD_ARGUMENT, last -> new RudderSchedule().gust(37, last, 1));
-        dueTaken("strength", -99, 99, BAD_ARGUMENT, strength -> new RudderSchedule().gust(0, 0, strength));
+        dueRefused("first", 0, 9999, BAD_ARGUMENT, first -> new RudderSchedule().gust(first, 9999, 1));
+        dueRefused("last", 0, 9999, BAD_ARGUMENT, last -> new RudderSchedule().gust(0, last, 1));
+        dueRefused("last of first 37", 37, 9999, BAD_ARGUMENT, last -> new RudderSchedule().gust(37, last, 1));
+        dueRefused("strength", -99, 99, BAD_ARGUMENT, strength -> new RudderSchedule().gust(0, 0, strength));
 
         sentence("Throws `IllegalStateException` if there are 8 gusts");
         RudderSchedule full = made("ship 0 0;gust 0 0 1;gust 0 0 1;");
@@ -721,13 +824,21 @@ public final class PromiseBoundariesTest extends Checks {
         due("the row before", 7, () -> last.gains(0, 9, 0, 0));
 
         sentence(NO_INDEX);
-        dueTaken("row", 0, 1, BAD_INDEX, row -> x.gains(row, 5, 6, 7));
+        dueRefused("row", 0, 1, BAD_INDEX, row -> x.gains(row, 5, 6, 7));
         due("both", BAD_INDEX, () -> x.gains(2, 1000, 100, 1000));
 
+        RudderSchedule ranges = new RudderSchedule();
+        range("- `p`: P, 0 to 999", 0, 999, BAD_ARGUMENT, p -> ranges.gains(0, p, 6, 7));
+        due("row(0, 1)", 999, () -> ranges.row(0, 1));
+        range("- `i`: I, 0 to 99", 0, 99, BAD_ARGUMENT, i -> ranges.gains(0, 5, i, 7));
+        due("row(0, 2)", 99, () -> ranges.row(0, 2));
+        range("- `d`: D, 0 to 999", 0, 999, BAD_ARGUMENT, d -> ranges.gains(0, 5, 6, d));
+        due("row(0, 3)", 999, () -> ranges.row(0, 3));
+
         sentence("Throws `IllegalArgumentException` if a gain is out of range");
-        dueTaken("P", 0, 999, BAD_ARGUMENT, p -> x.gains(0, p, 6, 7));
-        dueTaken("I", 0, 99, BAD_ARGUMENT, i -> x.gains(0, 5, i, 7));
-        dueTaken("D", 0, 999, BAD_ARGUMENT, d -> x.gains(0, 5, 6, d));
+        dueRefused("P", 0, 999, BAD_ARGUMENT, p -> x.gains(0, p, 6, 7));
+        dueRefused("I", 0, 99, BAD_ARGUMENT, i -> x.gains(0, 5, i, 7));
+        dueRefused("D", 0, 999, BAD_ARGUMENT, d -> x.gains(0, 5, 6, d));
         int[] want = {0, 5, 6, 999};
         for (int what = 0; what < 4; what++) {
             int w = what;
@@ -768,6 +879,17 @@ public final class PromiseBoundariesTest extends Checks {
         due("of 8 rows", byHand(made(text.toString())), () -> made(text.toString()).checksum());
         due("it overflows", true, () -> byHandWithoutOverflow(made(text.toString())).bitLength() > 63);
 
+        sentence("state(0) to state(16); for each row what row(int, int) tells of it for 0 to 3; wanted(), why(),");
+        RudderSchedule each = new RudderSchedule();
+        due("of a new object", expectedOfNewObject(), each::checksum);
+        for (int row = 0; row < 3; row++) {
+            int r = row;
+            for (int[] g : new int[][] {{89, 4, 81}, {90, 4, 81}, {90, 5, 81}, {90, 5, 80}}) {
+                x.gains(r, g[0], g[1], g[2]);
+                due("by the gains of the row " + r, byHand(x), x::checksum);
+            }
+        }
+
         sentence("and wind(int) of the present tick (if that is at most 20000).");
         RudderSchedule gusty = made("ship 0 0;gust 3 3 9;yaw 0;dead 90;");
         gusty.pass(3);
@@ -780,6 +902,14 @@ public final class PromiseBoundariesTest extends Checks {
             due("at the time " + time, byHand(late), late::checksum);
             late.pass(1);
         }
+    }
+
+    /** Of its numbers all but these are 0: the latest alarm -1, the rows 1, P 100, D 200, why 1. */
+    private static long expectedOfNewObject() {
+        int[] numbers = {0, 0, 0, 0, 0, 0, 0, 0, 0, 0, 0, 0, -1, 1, 0, 0, 0, 0, 100, 0, 200, 0, 1, 0};
+        long sum = 0;
+        for (int number : numbers) sum = 31 * sum + number;
+        return sum;
     }
 
     private static BigInteger byHandWithoutOverflow(RudderSchedule x) {

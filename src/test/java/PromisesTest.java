@@ -78,6 +78,17 @@ public final class PromisesTest extends Checks {
             "public int pass[int]", "public int steer[int]", "public int order[int]", "public int gust[int, int, int]",
             "public int gains[int, int, int, int]", "public boolean smooth[boolean]", "public int undo[]",
             "public long checksum[]")), () -> open);
+        Set<String> throwing = new TreeSet<>();
+        for (Method method : c.getDeclaredMethods()) {
+            if (!Modifier.isPublic(method.getModifiers())) continue;
+            for (Class<?> thrown : method.getExceptionTypes()) throwing.add(method.getName() + " " + thrown.getSimpleName());
+        }
+        Set<String> want = new TreeSet<>(Set.of("gust IllegalStateException"));
+        for (String name : "load state row gain wind error foretold settles swings tunes pass steer order gust gains".split(" ")) {
+            want.add(name + " IllegalArgumentException");
+        }
+        for (String name : "row tunes gains".split(" ")) want.add(name + " IndexOutOfBoundsException");
+        due("exceptions that are declared", want, () -> throwing);
         for (String name : hidden) {
             due("no public method is named " + name, false, () -> open.toString().contains(" " + name + "["));
         }

@@ -11,12 +11,14 @@ import java.util.Random;
 /** Runs of calls, drawn from fixed seeds, on the class and on the model: each answer and exception must be the same. */
 public final class RandomRunsTest {
     private static final int RUNS = 1500;
-    private static final int CALLS = 160;
+    /** Nothing is promised of later calls of an object. */
+    private static final int CALLS = 512;
 
     private final Random random;
     private final RudderSchedule schedule = new RudderSchedule();
     private final Model model = new Model();
     private final List<String> told = new ArrayList<>();
+    private int calls = 0;
 
     private RandomRunsTest(long seed) {
         random = new Random(seed);
@@ -43,11 +45,18 @@ public final class RandomRunsTest {
         }
         methods.sort(Comparator.comparing(Method::getName));
         // Every 50th run lasts till after the last tick at which the wind can be asked for.
-        boolean isLong = random.nextInt(50) == 0;
-        int calls = isLong ? 3 * CALLS : CALLS;
-        for (int i = 0; i < calls; i++) {
-            String wrong = isLong ? compare("pass", 50) : null;
-            if (wrong == null) wrong = oneCall(methods, isLong && i > 10);
+        return random.nextInt(50) == 0 ? firstDifferenceOfLongRun(methods) : firstDifferenceOf(methods, CALLS, false);
+    }
+
+    private String firstDifferenceOfLongRun(List<Method> methods) throws Exception {
+        String wrong = firstDifferenceOf(methods, 60, false);
+        for (int i = 0; i < 400 && wrong == null; i++) wrong = compare("pass", 50);
+        return wrong == null ? firstDifferenceOf(methods, CALLS, true) : wrong;
+    }
+
+    private String firstDifferenceOf(List<Method> methods, int lastCall, boolean isToLast) throws Exception {
+        while (calls < lastCall) {
+            String wrong = oneCall(methods, isToLast);
             if (wrong == null && random.nextInt(3) == 0) wrong = compare("pass", some(50));
             if (wrong == null) wrong = compare("checksum");
             if (wrong != null) return wrong;
@@ -203,6 +212,8 @@ public final class RandomRunsTest {
     }
 
     private String compare(String name, Object... args) throws Exception {
+        if (calls == CALLS) return null;
+        calls++;
         Object got = answer(schedule, name, args);
         Object due = answer(model, name, args);
         told.add(name + Arrays.toString(args) + " answered " + got);

@@ -239,6 +239,8 @@ public final class SetupBoundariesTest extends Checks {
         dueFault("shi p 0 0;", -2, 0);
         dueFault(SHIP + "smoothcourse 5;", -2, 9);
         dueFault(SHIP + "yawrate;", -2, 9);
+        dueFault(SHIP + "smootha;", -2, 9);
+        dueFault(SHIP + "smoothz;", -2, 9);
         dueFault(SHIP + "yaw raterate;", -2, 13);
         dueFault(SHIP + "rows 0 1 1 1;", -2, 9);
         dueFault(SHIP + "ro w 0 1 1 1;", -2, 9);
@@ -253,6 +255,12 @@ public final class SetupBoundariesTest extends Checks {
             dueFault(SHIP + longer + " 0;", -2, 9);
             dueFault(SHIP + word.substring(1) + " 0;", -2, 9);
             dueFault(SHIP + word.substring(0, word.length() - 1) + " 0;", -2, 9);
+            for (int at = 0; at < word.length(); at++) {
+                String other = word.substring(0, at) + "z" + word.substring(at + 1);
+                dueFault(SHIP + other + " 0;", -2, 9);
+                dueFault(SHIP + "yaw " + other + ";", -2, 13);
+                if (word.equals("ship")) dueFault(other + " 0 0;", -2, 0);
+            }
         }
     }
 

@@ -6,6 +6,7 @@ public final class TickBoundariesTest extends Checks {
         speedOfThisTick();
         sumInTheBand();
         sumIsLimited();
+        wantedRudder();
         smallErrorAndRate();
         sumDoesNotMatter();
         rateAheadOfTheYaw();
@@ -98,6 +99,30 @@ public final class TickBoundariesTest extends Checks {
             x.steer(0);
             dueStates(x, 8, sign * 19999);
         }
+    }
+
+    private static void wantedRudder() {
+        sentence("(3) The wanted rudder is (P * error + I * sum / 10 - D * rate of turn) / 100;");
+        due("the greatest P and error", 999 * 1800 / 100, () -> made("ship 0 0;row 0 999 0 0;course 1800;").wanted());
+        due("to the left", -999 * 1799 / 100, () -> made("ship 0 0;row 0 999 0 0;course 1801;").wanted());
+        RudderSchedule sum = made("ship 0 0;row 0 0 99 0;band 900;course 900;");
+        sum.pass(23);
+        due("the greatest I and sum", 99 * 20000 / 10 / 100, sum::wanted);
+        RudderSchedule spun = made("ship 0 0;row 0 0 0 999;yaw 300;");
+        spun.pass(1);
+        due("the greatest D and rate of turn", -999 * 300 / 100, spun::wanted);
+        due("less than 1", 0, () -> made("ship 0 0;row 0 1 0 0;course 99;").wanted());
+        due("just 1", 1, () -> made("ship 0 0;row 0 1 0 0;course 100;").wanted());
+        due("less than 1 to the left", 0, () -> made("ship 0 0;row 0 1 0 0;course 3501;").wanted());
+        due("just 1 to the left", -1, () -> made("ship 0 0;row 0 1 0 0;course 3500;").wanted());
+        RudderSchedule all = made("ship 0 0;row 0 7 3 11;dead 0;yaw wind;gust 0 0 9;course 99;");
+        all.pass(1);
+        // The error is 90, the sum 99 + 90, the rate of turn 9.
+        due("all three", (7 * 90 + 3 * 189 / 10 - 11 * 9) / 100, all::wanted);
+        due("no gains", 0, () -> made("ship 0 0;row 0 0 0 0;course 1800;").wanted());
+        // 99 * 19 / 10 is 188; from the left to the right, as 19 / 10 is 1.
+        due("the sum's part", 1, () -> made("ship 0 0;row 0 0 99 0;course 19;").wanted());
+        due("the sum's part to the left", -1, () -> made("ship 0 0;row 0 0 99 0;course 3581;").wanted());
     }
 
     private static void smallErrorAndRate() {
@@ -293,6 +318,9 @@ public final class TickBoundariesTest extends Checks {
             int ticks = i + 1;
             due("foretold rate of turn behind " + (5 + ticks), written.foretold(5 + ticks, 1), () -> fast.foretold(ticks, 1));
         }
+        // 3999 / 2000 and 4000 / 2000
+        dueStates(made("ship 0 129;rudder 450 31;course 900;"), 2, 1);
+        dueStates(made("ship 0 125;rudder 450 32;course 900;"), 2, 2);
         dueStates(made("ship 0 99;rudder 450 20;course 900;"), 2, 0, 1);
         dueStates(made("ship 0 100;rudder 450 20;course 900;"), 2, 1, 1 + 2);
         dueStates(made("ship 0 100;rudder 450 20;course 2700;"), 2, -1, -1 - 2);
