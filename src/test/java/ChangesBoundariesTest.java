@@ -191,14 +191,6 @@ public final class ChangesBoundariesTest extends Checks {
         dueAlike(y, z);
     }
 
-    private static void dueAlike(RudderSchedule x, RudderSchedule like) {
-        due("checksum()", like.checksum(), x::checksum);
-        for (int what = 0; what <= 6; what++) {
-            int w = what;
-            due("foretold(100, " + w + ")", like.foretold(100, w), () -> x.foretold(100, w));
-        }
-    }
-
     private static void firstException() {
         sentence("If several exceptions apply to a call, the one that is listed first with the method is thrown.");
         RudderSchedule x = made("ship 0 0;" + repeated("gust 0 0 0;", 8));

@@ -133,6 +133,55 @@ abstract class Checks {
         dueFault(text, rows, -1);
     }
 
+    interface IntCall {
+        Object of(int number) throws Exception;
+    }
+
+    /** The test of words that name a range: its ends and its middle are taken, the next numbers beyond are refused. */
+    static void range(String words, int low, int high, String exception, IntCall call) {
+        sentence(words);
+        for (int taken : new int[] {low, (low + high) / 2, high}) dueTaken("" + taken, taken, call);
+        due("" + (low - 1), exception, () -> call.of(low - 1));
+        due("" + (high + 1), exception, () -> call.of(high + 1));
+    }
+
+    /** Numbers beyond the range from low to high, the wildest ones too, are refused; the ends of it are not. */
+    static void dueRefused(String what, int low, int high, String exception, IntCall call) {
+        for (int refused : new int[] {low - 1, high + 1, high + 100000, Integer.MIN_VALUE, Integer.MIN_VALUE + 1, Integer.MAX_VALUE}) {
+            due(what + " of " + refused, exception, () -> call.of(refused));
+        }
+        for (int taken : new int[] {low, high}) dueTaken(what + " of " + taken, taken, call);
+    }
+
+    private static void dueTaken(String what, int taken, IntCall call) {
+        due(what + " throws", false, () -> answerOf(() -> call.of(taken)).startsWith("throws."));
+    }
+
+    /** Both tell the same of themselves and of what comes. */
+    static void dueAlike(RudderSchedule x, RudderSchedule like) {
+        due("checksum()", like.checksum(), x::checksum);
+        for (int what = 0; what <= 6; what++) {
+            int w = what;
+            due("foretold(100, " + w + ")", like.foretold(100, w), () -> x.foretold(100, w));
+        }
+    }
+
+    /** A ship on its way, with 3 changes that can be undone. */
+    static RudderSchedule shipOnItsWay() {
+        RudderSchedule x = made("ship 100 200;course 400;row 0 90 5 80;row 150 70 3 60;gust 0 50 2;"
+            + "yaw rudder*speed/1500-rate/2+wind;");
+        x.pass(20);
+        x.order(90);
+        return x;
+    }
+
+    static void dueGains(RudderSchedule x, int[] speedAndGains) {
+        for (int what = 1; what <= 3; what++) {
+            int w = what;
+            due("gain(" + speedAndGains[0] + ", " + w + ")", speedAndGains[w], () -> x.gain(speedAndGains[0], w));
+        }
+    }
+
     /** What state(what) tells behind the first tick. */
     static int behindTick(RudderSchedule x, int what) {
         x.pass(1);

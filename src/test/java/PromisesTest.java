@@ -1068,7 +1068,7 @@ public final class PromisesTest extends Checks {
         RudderSchedule x = new RudderSchedule();
         due("of a new object", byHand(x), x::checksum);
         loaded(x, "ship 100 200;course 400;row 0 90 5 80;row 150 70 3 60;gust 0 50 2;dead 1;smooth;");
-        for (int i = 0; i < 20; i++) {
+        for (int i = 0; i < 12; i++) {
             due("on the way", byHand(x), x::checksum);
             x.pass(3);
         }

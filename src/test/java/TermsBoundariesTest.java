@@ -298,13 +298,6 @@ public final class TermsBoundariesTest extends Checks {
             () -> made("ship 0 59;smooth;course 100;" + THREE_ROWS).wanted());
     }
 
-    private static void dueGains(RudderSchedule x, int[] speedAndGains) {
-        for (int what = 1; what <= 3; what++) {
-            int w = what;
-            due("gain(" + speedAndGains[0] + ", " + w + ")", speedAndGains[w], () -> x.gain(speedAndGains[0], w));
-        }
-    }
-
     private static void windIsASum() {
         sentence("The wind at a tick is the sum of the strengths of all gusts that cover it.");
         due("no gust", 0, () -> new RudderSchedule().wind(0));
